@@ -113,7 +113,7 @@ public final class AssembleTest {
         x.addDatum(2);
         // Each line is followed by one whose best place is taken, so that the next band is sought, then the next place.
         x.addLine(12, 0, 1);
-        x.addLine(50, 0, 2);
+        x.addLine(50, 3, 2);
         x.addLine(30, 1, 3);
         x.addLine(30, 0, 4);
         x.addLine(10, 1, 5);
@@ -126,6 +126,7 @@ public final class AssembleTest {
             Check.number("24 place of " + i, x.placeOf(i), lines[i]);
         }
         Check.number("25 place of 1", x.placeOfDatum(1), 7);
+        Check.number("3 a branch to a line that is placed", x.word(4), 5000100006L);
         x.start(0);
         x.run(100);
         Check.number("26 as it runs", x.foretold(true), x.beat());
@@ -151,6 +152,13 @@ public final class AssembleTest {
         }
         Check.number("25 the plain one", y.placeOfDatum(2), 7);
         Check.number("3 the plain one", y.word(3), 5000010002L);
+        Drumline z = new Drumline();
+        z.addLine(99, 0, 2);
+        z.addLine(99, 0, 0);
+        z.addLine(99, 0, 0);
+        Check.number("26 as many", z.foretold(true), z.foretold(false));
+        z.assemble(true);
+        Check.number("24 the best places if they cost no more", z.placeOf(2), 1);
         int taken = 0;
         for (int seed = 0; seed < 400; seed++) {
             Drumline x = random(seed);

@@ -521,8 +521,9 @@ public final class Drumline {
             return before;
         }
 
+        /** Looks at the address by itself, as calls go at most eight deep and this one is the last of eight. */
         int readyBeat(int address) {
-            return holds(address) ? readyBeats[address] : 0;
+            return address >= 0 && address < ADDRESSES ? readyBeats[address] : 0;
         }
 
         void delay(int address, int beat) {

@@ -102,11 +102,15 @@ public final class FaceTest {
         }
         types.add(Drumline.class);
         for (Class<?> type : types) {
+            int fields = 0;
             for (Field field : type.getDeclaredFields()) {
                 if (Modifier.isStatic(field.getModifiers())) {
                     Check.same(field + " final", Modifier.isFinal(field.getModifiers()), true);
+                } else {
+                    fields++;
                 }
             }
+            Check.same(type + " fields", fields <= 20, true);
         }
         for (Method method : Drumline.class.getDeclaredMethods()) {
             if (Modifier.isPrivate(method.getModifiers())) {

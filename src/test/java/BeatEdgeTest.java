@@ -16,6 +16,7 @@ public final class BeatEdgeTest {
         lookingTakesABeatAWord();
         lookingOverACard();
         beginningsAtEachAddress();
+        beginningsBehindStops();
         noAddressToBeginAt();
         beginningsMakeAllReady();
         leastAndGreatestSteps();
@@ -278,6 +279,19 @@ public final class BeatEdgeTest {
         Drumline z = Code.overflowed();
         z.start(3);
         Check.same("16 none noted", z.isOverflow(), false);
+    }
+
+    /** Behind a stop, the instruction that was to come is the one at which the machine stands. */
+    private static void beginningsBehindStops() {
+        long[] words = {Code.of(99, 0, 9), Code.of(70, 5, 9), Code.of(31, 5, 9), Code.of(13, 5, 9), -1};
+        char[] due = {'s', 'c', 'd', 'i', 'i'};
+        for (int i = 0; i < words.length; i++) {
+            Drumline x = new Drumline();
+            x.put(37, words[i]);
+            Check.number("11 at first", x.start(37), 0);
+            Check.number("12 a stop", x.run(3), due[i]);
+            Check.number("11 behind a stop", x.start(8), 37);
+        }
     }
 
     /** start "Throws IndexOutOfBoundsException if there is no such address": -1 and 40. */

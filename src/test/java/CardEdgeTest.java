@@ -7,6 +7,8 @@ public final class CardEdgeTest {
         eachColumn();
         noneAndZero();
         oneColumnForAll();
+        wiredWhenItIsRead();
+        panelStays();
         noNumbersToWire();
         leastAndGreatestCard();
         noCards();
@@ -20,6 +22,7 @@ public final class CardEdgeTest {
         meanOfNothing();
         meanOfWords();
         meanOfMany();
+        upToTheLastCall();
         Check.close();
     }
 
@@ -86,6 +89,43 @@ public final class CardEdgeTest {
         }
         x.addCard(1234567896);
         Check.number("6 one for all", read(x), 6666666666L);
+    }
+
+    /** "The panel wires each digit of the word that is read": as it is then, not as it was when the card came. */
+    private static void wiredWhenItIsRead() {
+        Drumline x = new Drumline();
+        x.addCard(CARD);
+        x.addCard(CARD);
+        x.wire(1, 9);
+        x.wire(9, 0);
+        Check.number("6 wired behind the card", read(x), 9234567800L);
+        x.wire(1, 1);
+        x.wire(9, 9);
+        Check.number("6 wired back", read(x), CARD);
+        x.wire(10, 1);
+        x.addCard(CARD);
+        x.wire(10, 10);
+        Check.number("6 wired only when the card came", read(x), CARD);
+    }
+
+    /** The panel stays, whatever begins, is assembled or emptied. */
+    private static void panelStays() {
+        Drumline x = new Drumline();
+        for (int digit = 1; digit <= 10; digit++) {
+            x.wire(digit, 11 - digit);
+        }
+        x.addLine(99, 0, 0);
+        x.assemble(true);
+        x.run(1);
+        x.isSound();
+        x.clearSource();
+        x.start(5);
+        x.addCard(CARD);
+        x.put(1, -CARD);
+        Check.number("6 still wired, and without the sign of the word before", read(x), 987654321);
+        for (int digit = 1; digit <= 10; digit++) {
+            Check.number("6 still wired", x.wire(digit, digit), 11 - digit);
+        }
     }
 
     /** "Throws IllegalArgumentException if a number is out of range": 0 and 11, -1 and 11. */
@@ -292,5 +332,28 @@ public final class CardEdgeTest {
     private static void meanOfMany() {
         manyWords(Code.BIG, 9999999999.0);
         manyWords(-Code.BIG, -9999999999.0);
+    }
+
+    /** A machine that has punched all that 511 calls can: its 512th call is to come. */
+    private static Drumline punchedOut() {
+        Drumline x = new Drumline();
+        x.put(0, Code.of(71, 0, 0));
+        for (int i = 0; i < 510; i++) {
+            x.run(100);
+        }
+        return x;
+    }
+
+    /** "An object is used for at most 512 calls": the last one is answered as others are. */
+    private static void upToTheLastCall() {
+        Check.number("9 the last call", punchedOut().punched(), 51000);
+        Check.number("10 the last call", punchedOut().punchedAt(50999), Code.of(71, 0, 0));
+        Check.same("29 the last call", punchedOut().meanPunched(), 7100000000.0);
+        Drumline x = punchedOut();
+        Check.fails("10 the last call", IndexOutOfBoundsException.class, () -> x.punchedAt(51000));
+        // 6 beats of the first one; then each waits 4 for its instruction and 9 for its word.
+        Check.number("17 the last call", punchedOut().beat(), 15 + 50999 * 20);
+        Check.number("18 the last call", punchedOut().waits(), 9 + 50999 * 14);
+        Check.number("19 the last call", punchedOut().done(), 51000);
     }
 }

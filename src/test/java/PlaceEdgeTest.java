@@ -23,6 +23,7 @@ public final class PlaceEdgeTest {
         branchesDoNotGo();
         allAddressesReady();
         fullSource();
+        placingAltersNoAnswer();
         Check.close();
     }
 
@@ -357,5 +358,51 @@ public final class PlaceEdgeTest {
             }
             Check.same("26 placing saves", x.foretold(true) < x.foretold(false), true);
         }
+    }
+
+    /** "Placing never alters an answer": what a source comes to by both ways, up to 100 steps with cards. */
+    private static void placingAltersNoAnswer() {
+        java.util.Random dice = new java.util.Random(30);
+        int placed = 0;
+        for (int round = 0; round < 300; round++) {
+            Drumline plain = new Drumline();
+            Drumline best = new Drumline();
+            for (int i = 0; i < 8; i++) {
+                long word = (long) (dice.nextDouble() * (i < 4 ? 100 : Code.BIG)) * (dice.nextBoolean() ? 1 : -1);
+                plain.addDatum(word);
+                best.addDatum(word);
+                plain.addCard(Math.abs(word));
+                best.addCard(Math.abs(word));
+            }
+            for (int i = 0; i < 16; i++) {
+                int operation = Code.OPERATIONS[dice.nextInt(15)];
+                operation = operation == 60 ? 71 : operation;
+                int reference = 1 + dice.nextInt(7);
+                int next = dice.nextInt(4) == 0 ? dice.nextInt(16) : (i + 1) % 16;
+                plain.addLine(operation, reference, next);
+                best.addLine(operation, reference, next);
+            }
+            plain.assemble(false);
+            best.assemble(true);
+            placed += best.placeOfDatum(7) == 23 ? 0 : 1;
+            Check.number("12 by both ways", best.run(100), plain.run(100));
+            Check.same("13 to 19 by both ways", cameTo(best), cameTo(plain));
+            Check.same("30 sound", best.isSound(), true);
+        }
+        Check.same("23 placed mostly", placed > 150, true);
+    }
+
+    private static String cameTo(Drumline x) {
+        StringBuilder text = new StringBuilder();
+        text.append(x.accumulator()).append(' ').append(x.extension()).append(' ').append(x.isOverflow()).append(' ');
+        text.append(x.done()).append(' ').append(x.cards()).append(" |");
+        for (int i = 0; i < x.punched() && i < 100; i++) {
+            text.append(' ').append(x.punchedAt(i));
+        }
+        text.append(" |");
+        for (int datum = 0; datum < 8; datum++) {
+            text.append(' ').append(x.word(x.placeOfDatum(datum)));
+        }
+        return text.toString();
     }
 }

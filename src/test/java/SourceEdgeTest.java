@@ -26,6 +26,9 @@ public final class SourceEdgeTest {
         plainPlaces();
         wholeDrumTaken();
         writesLinesAndDataAlone();
+        writesOverOtherWords();
+        leavesWhatItWroteBefore();
+        dataOutlastTheDrum();
         wordsOfLines();
         linesOfPlaces();
         dataOfPlaces();
@@ -391,6 +394,60 @@ public final class SourceEdgeTest {
         Check.number("17 stays", x.beat(), beat);
         Check.number("19 stays", x.done(), 3);
         Check.number("8 stays", x.cards(), 1);
+    }
+
+    /** Each datum is written, one of 0 and one that no line uses too. */
+    private static void writesOverOtherWords() {
+        for (boolean isPlaced : new boolean[] {false, true}) {
+            Drumline x = new Drumline();
+            for (int address = 0; address < 40; address++) {
+                x.put(address, -7777);
+            }
+            for (int i = 0; i < 8; i++) {
+                x.addDatum(0);
+            }
+            x.addLine(12, 5, 0);
+            x.assemble(isPlaced);
+            for (int i = 0; i < 8; i++) {
+                Check.number("3 a datum of 0", x.word(x.placeOfDatum(i)), 0);
+            }
+        }
+    }
+
+    /** What was assembled elsewhere before stays on the drum. */
+    private static void leavesWhatItWroteBefore() {
+        Drumline x = data(2);
+        x.addLine(12, 1, 1);
+        x.addLine(99, 0, 0);
+        x.assemble(false);
+        x.assemble(true);
+        // The line 1 stands at 4 now, the datum 1 at 1, the datum 0 at 2 as before.
+        long[] due = {Code.of(12, 1, 4), 101, 100, 101, Code.of(99, 0, 0), 0};
+        for (int address = 0; address < due.length; address++) {
+            Check.number("3 at " + address, x.word(address), due[address]);
+        }
+        x.clearSource();
+        x.addLine(40, 1, 0);
+        x.assemble(true);
+        Check.number("3 another source", x.word(0), Code.of(40, 1, 0));
+        Check.number("3 another source leaves it", x.word(4), Code.of(99, 0, 0));
+    }
+
+    /** The data of the source are what was added, whatever is written to their places. */
+    private static void dataOutlastTheDrum() {
+        Drumline x = data(2);
+        x.addLine(12, 0, 1);
+        x.addLine(20, 1, 2);
+        x.addLine(99, 0, 0);
+        x.assemble(false);
+        Check.number("12 to the end", x.run(9), 's');
+        Check.number("3 the datum 1 on the drum", x.word(4), 100);
+        x.put(3, 5);
+        x.fault(1, 1, 7);
+        x.assemble(false);
+        Check.number("3 the datum 0 again", x.word(3), 100);
+        Check.number("3 the datum 1 again", x.word(4), 101);
+        Check.number("3 the line 1 again", x.word(1), Code.of(20, 4, 2));
     }
 
     /** "A line has an operation .., a reference D, .. and 0 for 99, and a line that comes next", as addresses then. */

@@ -123,6 +123,16 @@ public final class SumEdgeTest {
         Drumline y = Code.overflowed();
         y.start(0);
         Check.same("16 a beginning", y.isOverflow(), false);
+        Drumline z = Code.overflowed();
+        z.put(3, Code.of(60, 38, 4));
+        z.put(4, Code.of(70, 38, 5));
+        z.put(5, Code.of(41, 1, 6));
+        z.addCard(3);
+        for (int i = 0; i < 4; i++) {
+            Check.number("12 then step " + i, z.run(1), i < 3 ? '-' : 'i');
+            Check.same("16 then step " + i, z.isOverflow(), true);
+        }
+        Check.number("14 60 that finds none", z.extension(), -1);
     }
 
     /** 12 "makes the accumulator this word": the least and the greatest; what was noted stays out of it. */
@@ -174,6 +184,11 @@ public final class SumEdgeTest {
         product(5000000000L, 2, 1, 0);
         product(9999900000L, 9999900000L, 9999800001L, 0);
         product(9999999990L, 1000000001, 999999999, 9999999990L);
+        // What is carried from the last 10 digits comes to exactly 1, and they are 0.
+        product(120000, 250000, 3, 0);
+        product(-120000, 250000, -3, 0);
+        product(4000000000L, 2500000000L, 1000000000, 0);
+        product(9999975000L, 9999960000L, 9999935000L, 1000000000);
     }
 
     /** 30 makes the extension 0 if there are no digits ahead. */

@@ -21,6 +21,8 @@ public final class WordEdgeTest {
         checkDigitWrapsAround();
         oneFaultIsAlwaysFound();
         writingPutsRight();
+        writingWhatIsThere();
+        faultToTheSameDigit();
         sumAtFirst();
         sumByRisingAddresses();
         sumWrapsAround();
@@ -259,6 +261,56 @@ public final class WordEdgeTest {
         Check.same("5 a line", x.isGood(0), true);
         Check.same("5 a datum", x.isGood(1), true);
         Check.same("5 no others", x.isGood(20), false);
+    }
+
+    /** The same for a word that reads as the one that is written, with the check digit of another. */
+    private static void writingWhatIsThere() {
+        Drumline x = Code.with(Code.of(12, 5, 1), Code.of(20, 6, 2), Code.of(70, 7, 3));
+        x.put(5, -42);
+        x.addCard(31);
+        wrong(x, 6, -42);
+        wrong(x, 7, 31);
+        wrong(x, 8, 9);
+        x.run(3);
+        Check.number("2 the same word", x.put(8, 9), 9);
+        Check.number("3 the same word by 20", x.word(6), -42);
+        Check.number("3 the same word by 70", x.word(7), 31);
+        for (int address = 6; address <= 8; address++) {
+            Check.same("5 the same word at " + address, x.isGood(address), true);
+        }
+        Drumline y = new Drumline();
+        y.addDatum(-8);
+        y.addDatum(0);
+        y.addLine(99, 0, 0);
+        wrong(y, 0, Code.of(99, 0, 0));
+        wrong(y, 1, -8);
+        wrong(y, 2, 0);
+        y.assemble(false);
+        for (int address = 0; address <= 2; address++) {
+            Check.same("5 the same word assembled at " + address, y.isGood(address), true);
+        }
+    }
+
+    /** Makes a word read as the one that is told, with a check digit that isn't right. */
+    private static void wrong(Drumline x, int address, long word) {
+        int last = (int) (Math.abs(word) % 10);
+        long magnitude = Math.abs(word) - last + (last + 1) % 10;
+        x.put(address, word < 0 ? -magnitude : magnitude);
+        x.fault(address, 10, last);
+        Check.number("3 a wrong word", x.word(address), word);
+        Check.same("5 a wrong word", x.isGood(address), false);
+    }
+
+    /** A fault "leaves its check digit", one that makes a digit what it is as well. */
+    private static void faultToTheSameDigit() {
+        Drumline x = new Drumline();
+        wrong(x, 5, -1234567890);
+        for (int digit = 1; digit <= 10; digit++) {
+            Check.number("4 the same digit", x.fault(5, digit, digit % 10), digit % 10);
+            Check.same("5 the same digit", x.isGood(5), false);
+        }
+        x.fault(5, 10, 1);
+        Check.same("5 the digit that was written", x.isGood(5), true);
     }
 
     /** checksum "Returns 0 at first": the sum over nothing but zeros. */
